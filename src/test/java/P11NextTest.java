@@ -1,0 +1,29 @@
+public final class P11NextTest {
+    public static void main(String[] args) {
+        Script.check("the least time in the list", """
+            next = -1
+            process 4 1 0 = 0
+            process -4 1 0 = 1
+            process 0 1 0 = 2
+            next = -1
+            activate 1 8 = true
+            next = 8
+            activate 0 3 = true
+            next = 3
+            activate 2 5 = true
+            next = 3
+            run 1 100 = 1
+            next = 5
+            kill 2 = true
+            next = 8
+            run 1 100 = 1
+            next = -1
+            """);
+        Script.check("0 is a time like others", """
+            process 0 1 0 = 0
+            activate 0 0 = true
+            next = 0
+            """);
+        Script.end();
+    }
+}

@@ -1,0 +1,19 @@
+public final class P19LevelTest {
+    public static void main(String[] args) {
+        Script.check("each tank has its own level", """
+            process 0 1 0 = 0
+            body 0: put 0 1, put 1 20, put 2 300, put 3 1000, take 2 299, take 1 20
+            activate 0 0 = true
+            run 1 0 = 1
+            level 0 = 1
+            level 1 = 0
+            level 2 = 1
+            level 3 = 1000
+            level -1 = -1
+            level 4 = -1
+            level 2147483647 = -1
+            level -2147483648 = -1
+            """);
+        Script.end();
+    }
+}
