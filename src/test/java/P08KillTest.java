@@ -69,6 +69,24 @@ public final class P08KillTest {
             level 0 = 5
             place 0 = 4
             """);
+        Script.check("a body of ten whose last is a RELEASE, and a place beyond the body", """
+            resource 0 3 false = true
+            process 0 1 0 = 0
+            body 0: seize 0 2, passivate, hold 1, hold 1, hold 1, hold 1, hold 1, hold 1, hold 1, release 0 2
+            process 0 1 10 = 1
+            body 1: seize 0 1, passivate, release 0 1
+            activate 0 0 = true
+            activate 1 0 = true
+            run 2 0 = 2
+            kill 0 = true
+            held 0 0 = 0
+            place 0 = 2
+            interrupt 1 = true
+            kill 1 = true
+            held 1 0 = 1
+            place 1 = 10
+            next = -1
+            """);
         Script.check("what is given back goes to the lines, in order of the RELEASEs", """
             process 0 1 0 = 0
             body 0: seize 0 1, seize 1 1, passivate, release 1 1, release 0 1

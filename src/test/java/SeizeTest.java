@@ -257,6 +257,52 @@ public final class SeizeTest {
             place 0 = 1
             next = 5
             """);
+        Script.check("when just enough is free, nobody else loses", """
+            resource 0 4 true = true
+            process 1 1 0 = 0
+            body 0: seize 0 2, passivate
+            process 2 1 0 = 1
+            body 1: seize 0 2, passivate
+            process 0 1 0 = 2
+            body 2: seize 0 2, passivate
+            activate 0 0 = true
+            activate 1 0 = true
+            activate 2 1 = true
+            run 3 1 = 3
+            held 0 0 = 2
+            held 1 0 = 0
+            held 2 0 = 2
+            state 0 = 3
+            state 1 = 1
+            """);
+        Script.check("twelve processes, of which the last and the first lose", """
+            resource 3 9 true = true
+            process 1 1 5 = 0
+            body 0: seize 3 4, passivate
+            process 0 1 5 = 1
+            body 1: seize 3 9, passivate
+            process 0 1 5 = 2
+            process 0 1 5 = 3
+            process 0 1 5 = 4
+            process 0 1 5 = 5
+            process 0 1 5 = 6
+            process 0 1 5 = 7
+            process 0 1 5 = 8
+            process 0 1 5 = 9
+            process 0 1 5 = 10
+            process 1 1 5 = 11
+            body 11: seize 3 5, passivate
+            activate 0 0 = true
+            activate 11 0 = true
+            activate 1 1 = true
+            run 3 1 = 3
+            held 1 3 = 9
+            held 0 3 = 0
+            held 11 3 = 0
+            run 2 1 = 2
+            traced 1 = 91
+            traced 0 = 80
+            """);
         Script.check("more than the capacity is waited for", """
             resource 0 3 true = true
             process 0 1 0 = 0
