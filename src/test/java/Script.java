@@ -10,8 +10,6 @@ import java.util.List;
  */
 final class Script {
     private static final int MOST_CALLS = 512;
-    private static final List<String> OPS = List.of(
-            "hold", "passivate", "seize", "release", "put", "take", "join", "wake", "break", "kill");
     private static int wrong = 0;
     private static int right = 0;
 
@@ -58,31 +56,22 @@ final class Script {
             return;
         }
         if (line.startsWith("body ")) {
-            body(line.substring(5));
+            for (Call call : Call.ofBody(line.substring(5))) {
+                due(line, answer(call), "true");
+            }
         } else if (line.startsWith("refused:")) {
             refused(line.substring(8));
         } else {
             String[] sides = line.split("=");
-            due(line, call(sides[0].trim()), sides[1].trim());
-        }
-    }
-
-    private void body(String text) {
-        String[] sides = text.split(":");
-        for (String instruction : sides[1].split(",")) {
-            String[] words = instruction.trim().split(" ");
-            int op = OPS.indexOf(words[0]);
-            String a = words.length > 1 ? words[1] : "0";
-            String b = words.length > 2 ? words[2] : "0";
-            due("body " + text, call("instruct " + sides[0].trim() + " " + op + " " + a + " " + b), "true");
+            due(line, answer(new Call(sides[0])), sides[1].trim());
         }
     }
 
     private void refused(String text) {
         List<String> before = seen();
         for (String call : text.split(";")) {
-            String got = call(call.trim());
-            due("refused " + call, got.equals("false") || got.equals("-1") ? "no" : got, "no");
+            String got = answer(new Call(call));
+            due("refused " + call, Call.isRefusal(got) ? "no" : got, "no");
         }
         due("after refused" + text, seen().toString(), before.toString());
     }
@@ -102,49 +91,18 @@ final class Script {
         return seen;
     }
 
-    private void see(List<String> seen, String... calls) {
-        for (String call : calls) {
-            seen.add(call + " = " + call(call));
+    private void see(List<String> seen, String... texts) {
+        for (String text : texts) {
+            seen.add(text + " = " + answer(new Call(text)));
         }
     }
 
-    private String call(String text) {
+    private String answer(Call call) {
         calls++;
-        String[] words = text.split(" +");
-        int[] n = new int[4];
-        for (int i = 1; i < words.length; i++) {
-            boolean isNumber = words[i].matches("-?[0-9]+") && !words[0].equals("run");
-            n[i - 1] = isNumber ? Integer.parseInt(words[i]) : 0;
-        }
-        switch (words[0]) {
-            case "process": return made(kernel.process(n[0], n[1], n[2]));
-            case "instruct": return "" + kernel.instruct(n[0], n[1], n[2], n[3]);
-            case "resource": return "" + kernel.resource(n[0], n[1], words[3].equals("true"));
-            case "tank": return "" + kernel.tank(n[0], n[1], n[2]);
-            case "activate": return "" + kernel.activate(n[0], n[1]);
-            case "interrupt": return "" + kernel.interrupt(n[0]);
-            case "kill": return "" + kernel.kill(n[0]);
-            case "run": return "" + kernel.run(Integer.parseInt(words[1]), Long.parseLong(words[2]));
-            case "now": return "" + kernel.now();
-            case "next": return "" + kernel.next();
-            case "state": return "" + kernel.state(n[0]);
-            case "place": return "" + kernel.place(n[0]);
-            case "held": return "" + kernel.held(n[0], n[1]);
-            case "free": return "" + kernel.free(n[0]);
-            case "waiting": return "" + kernel.waiting(n[0]);
-            case "area": return "" + kernel.area(n[0]);
-            case "waited": return "" + kernel.waited(n[0]);
-            case "level": return "" + kernel.level(n[0]);
-            case "stuck": return "" + kernel.stuck();
-            case "traced": return "" + kernel.traced(n[0]);
-            default: return "no such call";
-        }
-    }
-
-    private String made(int p) {
-        if (p >= 0) {
+        String answer = call.on(kernel);
+        if (call.name.equals("process") && !Call.isRefusal(answer)) {
             processes++;
         }
-        return "" + p;
+        return answer;
     }
 }

@@ -313,6 +313,199 @@ public final class SeizeTest {
             free 0 = 3
             stuck = true
             """);
+        Script.check("none of the line is before it, and b units are free: those behind do not matter", """
+            resource 0 2 false = true
+            process 1 1 0 = 0
+            body 0: seize 0 9
+            process 0 1 0 = 1
+            body 1: seize 0 2, put 0 1
+            activate 0 0 = true
+            activate 1 0 = true
+            run 1 0 = 1
+            traced 0 = 1
+            run 1 0 = 1
+            state 0 = 4
+            free 0 = 0
+            held 1 0 = 2
+            level 0 = 1
+            """);
+        Script.check("one of equal number is before it: QUEUED, though b units are free and more could be had", """
+            resource 0 3 true = true
+            process 1 1 0 = 0
+            body 0: seize 0 1, passivate
+            process 0 1 0 = 1
+            body 1: seize 0 4
+            process 0 1 0 = 2
+            body 2: seize 0 1
+            activate 0 0 = true
+            run 1 0 = 1
+            activate 1 0 = true
+            run 1 0 = 1
+            activate 2 0 = true
+            run 1 0 = 1
+            state 1 = 4
+            state 2 = 4
+            free 0 = 2
+            held 0 0 = 1
+            state 0 = 3
+            """);
+        Script.check("one of greater number in the line: units are taken by force all the same", """
+            resource 0 1 true = true
+            process 1 1 10 = 0
+            body 0: seize 0 1, passivate
+            process 1 1 10 = 1
+            body 1: seize 0 1
+            process 0 1 0 = 2
+            body 2: seize 0 1, passivate
+            activate 0 0 = true
+            activate 1 0 = true
+            run 2 0 = 2
+            state 1 = 4
+            activate 2 0 = true
+            run 1 0 = 1
+            held 2 0 = 1
+            held 0 0 = 0
+            state 0 = 1
+            state 1 = 4
+            waiting 0 = 1
+            """);
+        Script.check("it does not preempt: QUEUED before those of greater number", """
+            resource 0 1 false = true
+            process 4 1 0 = 0
+            body 0: seize 0 1, passivate, release 0 1
+            process 1 1 0 = 1
+            body 1: seize 0 1
+            process 0 1 0 = 2
+            body 2: seize 0 1
+            activate 0 0 = true
+            run 1 0 = 1
+            activate 1 0 = true
+            run 1 0 = 1
+            activate 2 0 = true
+            run 1 0 = 1
+            state 2 = 4
+            held 0 0 = 1
+            activate 0 0 = true
+            run 1 0 = 1
+            held 2 0 = 1
+            state 1 = 4
+            """);
+        Script.check("all units of all nine losers, one each", nineLosers());
+        Script.check("its own units are not counted and are not lost", """
+            resource 0 3 true = true
+            process 1 1 10 = 0
+            body 0: seize 0 1, passivate
+            process 0 1 0 = 1
+            body 1: seize 0 2, seize 0 1, passivate, seize 0 1
+            activate 0 0 = true
+            activate 1 0 = true
+            run 1 0 = 1
+            traced 0 = 1
+            held 1 0 = 3
+            run 1 0 = 1
+            state 0 = 4
+            activate 1 0 = true
+            run 1 0 = 1
+            state 1 = 4
+            held 1 0 = 3
+            free 0 = 0
+            waiting 0 = 2
+            """);
+        Script.check("a loser that HOLDs, one that is PASSIVE, one that WAITS: each is broken off", """
+            resource 0 3 true = true
+            process 1 1 7 = 0
+            body 0: seize 0 1, hold 9
+            process 1 1 8 = 1
+            body 1: seize 0 1, passivate
+            process 1 1 9 = 2
+            body 2: seize 0 1, take 0 1
+            process 0 1 0 = 3
+            body 3: seize 0 3
+            activate 0 0 = true
+            activate 1 0 = true
+            activate 2 0 = true
+            run 3 0 = 3
+            activate 3 5 = true
+            run 1 5 = 1
+            state 0 = 1
+            place 0 = 7
+            state 1 = 1
+            place 1 = 8
+            state 2 = 1
+            place 2 = 9
+            waiting 4 = 0
+            next = 5
+            run 3 5 = 3
+            traced 2 = 146
+            traced 1 = 129
+            traced 0 = 112
+            """);
+        Script.check("who has units of other resources alone does not lose them", """
+            resource 0 1 true = true
+            resource 1 1 true = true
+            process 1 1 7 = 0
+            body 0: seize 0 1, passivate
+            process 2 1 7 = 1
+            body 1: seize 1 1, passivate
+            process 0 1 0 = 2
+            body 2: seize 0 1, passivate
+            activate 0 0 = true
+            activate 1 0 = true
+            run 2 0 = 2
+            activate 2 0 = true
+            run 1 0 = 1
+            held 0 0 = 0
+            state 0 = 1
+            held 1 1 = 1
+            state 1 = 3
+            """);
+        Script.check("a loser that waits in the line of that resource leaves it, and no longer wants anything", """
+            resource 0 2 true = true
+            process 1 1 10 = 0
+            body 0: seize 0 1, seize 0 2
+            process 0 1 0 = 1
+            body 1: seize 0 2, passivate
+            activate 0 0 = true
+            run 1 0 = 1
+            state 0 = 4
+            activate 1 3 = true
+            run 1 3 = 1
+            waiting 0 = 0
+            state 0 = 1
+            place 0 = 10
+            held 0 0 = 0
+            held 1 0 = 2
+            waited 0 = 0
+            """);
         Script.end();
+    }
+
+    /** Nine processes have a unit each; the tenth takes all of them. */
+    private static String nineLosers() {
+        String text = "resource 1 9 true = true\n";
+        for (int p = 0; p < 9; p++) {
+            text += "process " + (1 + p % 4) + " 1 10 = " + p + "\nbody " + p + ": seize 1 1, passivate\n"
+                    + "activate " + p + " 0 = true\n";
+        }
+        text += """
+            run 9 0 = 9
+            free 1 = 0
+            process 0 1 0 = 9
+            body 9: seize 1 9, passivate
+            activate 9 0 = true
+            run 1 0 = 1
+            held 9 1 = 9
+            free 1 = 0
+            """;
+        for (int p = 0; p < 9; p++) {
+            text += "held " + p + " 1 = 0\nstate " + p + " = 1\nplace " + p + " = 10\n";
+        }
+        // Of equal time, by priority; of equal priority, as they were interrupted: the greatest number first.
+        int[] order = {8, 4, 0, 5, 1, 6, 2, 7, 3};
+        text += "run 9 0 = 9\n";
+        for (int i = 0; i < 9; i++) {
+            text += "traced " + (8 - i) + " = " + (order[i] + 160) + "\n";
+        }
+        return text;
     }
 }
