@@ -47,6 +47,21 @@ public final class P01NewObjectTest {
                 state 1 = 5
                 """.replace("T", "" + i));
         }
+        Script.check("no process: none of the twelve numbers", """
+            state 0 = -1
+            state 11 = -1
+            place 11 = -1
+            held 11 3 = -1
+            refused: instruct 0 1 0 0; activate 0 0; interrupt 0; kill 0
+            refused: instruct 11 1 0 0; activate 11 0; interrupt 11; kill 11
+            process 0 1 0 = 0
+            """);
+        Script.check("the clock is 0, which is a time until which it can run", """
+            now = 0
+            run 0 0 = 0
+            run 100 0 = 0
+            now = 0
+            """);
         Script.end();
     }
 }

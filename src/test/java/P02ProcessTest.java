@@ -85,6 +85,46 @@ public final class P02ProcessTest {
             run 1 0 = 1
             state 0 = 6
             """);
+        Script.check("twelve that are over are twelve still", """
+            process 0 1 0 = 0
+            process 0 1 0 = 1
+            process 0 1 0 = 2
+            process 0 1 0 = 3
+            process 0 1 0 = 4
+            process 0 1 0 = 5
+            process 0 1 0 = 6
+            process 0 1 0 = 7
+            process 0 1 0 = 8
+            process 0 1 0 = 9
+            process 0 1 0 = 10
+            process 0 1 0 = 11
+            kill 0 = true
+            activate 11 0 = true
+            run 1 0 = 1
+            state 0 = 7
+            state 11 = 6
+            refused: process 0 1 0; process 4 9 10
+            """);
+        Script.check("a refused one takes no number", """
+            process 0 1 0 = 0
+            refused: process 5 1 0; process 0 0 0; process 0 1 11
+            process 0 1 0 = 1
+            refused: process -5 1 0; process 0 10 0; process 0 1 -1
+            process 0 1 0 = 2
+            state 3 = -1
+            """);
+        Script.check("a process can be made at any time, and after others are over", """
+            process 0 1 0 = 0
+            activate 0 3 = true
+            run 1 5 = 1
+            run 1 5 = 0
+            process 0 1 0 = 1
+            state 1 = 0
+            place 1 = 0
+            held 1 0 = 0
+            activate 1 0 = true
+            next = 5
+            """);
         Script.end();
     }
 }

@@ -117,6 +117,54 @@ public final class P03InstructTest {
             run 9 9 = 3
             state 0 = 6
             """);
+        Script.check("a resource or tank may be named that is changed later", """
+            process 0 1 0 = 0
+            body 0: seize 3 9, put 3 1000, take 2 1000
+            tank 2 10 0 = true
+            resource 3 9 false = true
+            tank 2 1000 1000 = true
+            activate 0 0 = true
+            run 1 0 = 1
+            state 0 = 6
+            held 0 3 = 9
+            level 3 = 1000
+            level 2 = 0
+            """);
+        Script.check("a body of none, while NEW, may grow after other processes were made and ran", """
+            process 0 1 0 = 0
+            process 0 1 0 = 1
+            activate 1 0 = true
+            run 1 0 = 1
+            body 0: put 0 7
+            activate 0 0 = true
+            run 1 0 = 1
+            level 0 = 7
+            """);
+        Script.check("the eleventh is refused and is not done", """
+            process 0 1 0 = 0
+            body 0: put 0 1, put 0 1, put 0 1, put 0 1, put 0 1, put 0 1, put 0 1, put 0 1, put 0 1, put 0 1
+            refused: instruct 0 4 0 100; instruct 0 0 0 0; instruct 0 9 11 0
+            activate 0 0 = true
+            run 1 0 = 1
+            level 0 = 10
+            place 0 = 10
+            state 0 = 6
+            """);
+        Script.check("refused once READY, HOLDING or PASSIVE, and not done", """
+            process 0 1 0 = 0
+            body 0: hold 1, passivate
+            activate 0 0 = true
+            refused: instruct 0 4 0 1
+            run 1 0 = 1
+            refused: instruct 0 4 0 1
+            run 1 1 = 1
+            refused: instruct 0 4 0 1
+            activate 0 0 = true
+            run 1 1 = 1
+            level 0 = 0
+            place 0 = 2
+            state 0 = 6
+            """);
         Script.end();
     }
 }

@@ -97,6 +97,69 @@ public final class P04ResourceTest {
             state 3 = 4
             waiting 0 = 2
             """);
+        Script.check("as many units as are seized, one fewer, one more", """
+            resource 1 9 false = true
+            process 0 1 0 = 0
+            body 0: seize 1 4, passivate
+            activate 0 0 = true
+            run 1 0 = 1
+            refused: resource 1 3 true
+            free 1 = 5
+            resource 1 4 true = true
+            free 1 = 0
+            resource 1 5 true = true
+            free 1 = 1
+            """);
+        Script.check("what those who are over have seized counts", """
+            process 0 1 0 = 0
+            body 0: seize 0 1
+            process 0 1 0 = 1
+            body 1: seize 1 1, passivate
+            activate 0 0 = true
+            activate 1 0 = true
+            run 2 0 = 2
+            kill 1 = true
+            refused: resource 0 0 false; resource 1 0 false
+            resource 0 1 false = true
+            """);
+        Script.check("no unit at all, with an empty line and with one in it", """
+            resource 0 0 false = true
+            free 0 = 0
+            process 0 1 0 = 0
+            body 0: seize 0 1
+            activate 0 0 = true
+            run 1 0 = 1
+            resource 0 0 true = true
+            free 0 = 0
+            waiting 0 = 1
+            state 0 = 4
+            next = -1
+            """);
+        Script.check("a refused call does not serve the line", """
+            resource 0 0 false = true
+            process 0 1 0 = 0
+            body 0: seize 0 1
+            activate 0 0 = true
+            run 1 0 = 1
+            refused: resource 0 10 false; resource 4 1 false; resource -1 1 false
+            state 0 = 4
+            """);
+        Script.check("the line of that resource is served, and no other", """
+            resource 0 0 false = true
+            resource 1 0 false = true
+            process 0 1 0 = 0
+            body 0: seize 0 1
+            process 0 1 0 = 1
+            body 1: seize 1 1
+            activate 0 0 = true
+            activate 1 0 = true
+            run 2 0 = 2
+            resource 1 9 false = true
+            state 0 = 4
+            state 1 = 1
+            waiting 0 = 1
+            waiting 1 = 0
+            """);
         Script.end();
     }
 }

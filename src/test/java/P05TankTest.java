@@ -117,6 +117,51 @@ public final class P05TankTest {
             state 0 = 5
             level 0 = 3
             """);
+        Script.check("level 0 and level as the capacity, of capacity 0, 1 and 1000", """
+            tank 0 0 0 = true
+            level 0 = 0
+            refused: tank 0 0 1; tank 0 0 -1
+            tank 1 1 0 = true
+            level 1 = 0
+            tank 1 1 1 = true
+            level 1 = 1
+            refused: tank 1 1 2
+            tank 2 1000 0 = true
+            level 2 = 0
+            tank 2 1000 1000 = true
+            level 2 = 1000
+            refused: tank 2 1000 1001; tank 2 1001 1000; tank 2 1001 0
+            """);
+        Script.check("a lesser capacity than the level was, if the new level is within it", """
+            tank 0 10 10 = true
+            refused: tank 0 9 10
+            tank 0 9 9 = true
+            level 0 = 9
+            tank 0 0 0 = true
+            level 0 = 0
+            """);
+        Script.check("the capacity holds from now on, for PUT in a turn and in the line", """
+            tank 0 3 0 = true
+            process 0 1 0 = 0
+            body 0: put 0 4
+            process 0 1 0 = 1
+            body 1: put 0 3
+            activate 0 0 = true
+            run 1 0 = 1
+            state 0 = 5
+            tank 0 6 0 = true
+            activate 1 0 = true
+            run 1 0 = 1
+            level 0 = 3
+            state 1 = 6
+            state 0 = 5
+            tank 0 7 3 = true
+            process 0 1 0 = 2
+            activate 2 0 = true
+            run 1 0 = 1
+            state 0 = 1
+            level 0 = 7
+            """);
         Script.end();
     }
 }

@@ -73,6 +73,36 @@ public final class P06ActivateTest {
             traced 0 = 1
             next = 11
             """);
+        Script.check("delay 0 and 1000000 at the latest time", """
+            process 0 1 0 = 0
+            process 0 1 0 = 1
+            run 1 1000000000000 = 0
+            activate 0 1000000 = true
+            next = 1000001000000
+            activate 1 0 = true
+            next = 1000000000000
+            run 2 1000000000000 = 1
+            next = 1000001000000
+            state 0 = 1
+            """);
+        Script.check("a PASSIVE process keeps its place, also when that is behind its body", """
+            process 0 1 0 = 0
+            body 0: passivate
+            activate 0 0 = true
+            run 1 0 = 1
+            place 0 = 1
+            activate 0 2 = true
+            place 0 = 1
+            run 1 2 = 1
+            traced 0 = 16
+            state 0 = 6
+            """);
+        Script.check("an activated one waits in the event list: it can not be broken off or activated again", """
+            process 0 1 0 = 0
+            activate 0 1000000 = true
+            refused: activate 0 0; activate 0 1000000; interrupt 0
+            next = 1000000
+            """);
         Script.end();
     }
 }

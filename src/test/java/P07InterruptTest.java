@@ -129,6 +129,65 @@ public final class P07InterruptTest {
             held 0 1 = 1
             free 1 = 0
             """);
+        Script.check("NEW, READY, ENDED and KILLED ones are not broken off", """
+            process 0 1 5 = 0
+            process 0 1 5 = 1
+            process 0 1 5 = 2
+            process 0 1 5 = 3
+            activate 2 0 = true
+            run 1 0 = 1
+            activate 1 3 = true
+            kill 3 = true
+            refused: interrupt 0; interrupt 1; interrupt 2; interrupt 3
+            place 0 = 0
+            place 1 = 0
+            next = 3
+            """);
+        Script.check("the handler is 0: the body begins again, in the same round", """
+            process 0 1 0 = 0
+            body 0: put 0 1, hold 5
+            activate 0 0 = true
+            run 1 0 = 1
+            interrupt 0 = true
+            place 0 = 0
+            run 1 0 = 1
+            traced 0 = 0
+            level 0 = 2
+            next = 5
+            """);
+        Script.check("entered for now: the clock's time, not that of the hold", """
+            process 0 1 10 = 0
+            body 0: hold 1000000
+            activate 0 0 = true
+            run 1 0 = 1
+            run 1 999999 = 0
+            interrupt 0 = true
+            next = 999999
+            run 2 2000000 = 1
+            state 0 = 6
+            next = -1
+            """);
+        Script.check("in the line of a resource it does not want that any more", """
+            process 0 1 10 = 0
+            body 0: seize 0 2
+            activate 0 0 = true
+            run 1 0 = 1
+            interrupt 0 = true
+            resource 0 9 false = true
+            held 0 0 = 0
+            free 0 = 9
+            run 1 0 = 1
+            state 0 = 6
+            """);
+        Script.check("interrupted twice: the second time it is READY", """
+            process 0 1 3 = 0
+            body 0: passivate
+            activate 0 0 = true
+            run 1 0 = 1
+            interrupt 0 = true
+            refused: interrupt 0
+            run 2 0 = 1
+            """);
         Script.end();
     }
 }

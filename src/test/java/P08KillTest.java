@@ -211,6 +211,92 @@ public final class P08KillTest {
             state 0 = 5           # it waits for its own end
             place 0 = 3
             """);
+        Script.check("of a NEW process with RELEASEs in its body: it has nothing to give back", """
+            resource 0 5 false = true
+            process 0 1 0 = 0
+            body 0: seize 0 3, release 0 3
+            process 0 1 0 = 1
+            body 1: seize 0 2, passivate
+            activate 1 0 = true
+            run 1 0 = 1
+            kill 0 = true
+            free 0 = 3
+            held 1 0 = 2
+            state 0 = 7
+            place 0 = 0
+            """);
+        Script.check("no instruction is left: nothing is given back", """
+            process 0 2 0 = 0
+            body 0: release 0 1, seize 0 1, passivate
+            activate 0 0 = true
+            run 1 0 = 1
+            place 0 = 3
+            kill 0 = true
+            held 0 0 = 1
+            free 0 = 0
+            """);
+        Script.check("the RELEASE at its very place is done, the one before it is not", """
+            resource 0 9 false = true
+            process 0 1 2 = 0
+            body 0: seize 0 9, release 0 1, release 0 2, passivate, release 0 4
+            activate 0 0 = true
+            run 1 0 = 1
+            held 0 0 = 6
+            interrupt 0 = true
+            place 0 = 2
+            kill 0 = true
+            held 0 0 = 0           # 2 and 4
+            free 0 = 9
+            place 0 = 2
+            """);
+        Script.check("the RELEASE at its very place, seen by what is left", """
+            resource 0 9 false = true
+            process 0 1 2 = 0
+            body 0: seize 0 9, release 0 1, release 0 2, passivate
+            activate 0 0 = true
+            run 1 0 = 1
+            held 0 0 = 6
+            interrupt 0 = true
+            kill 0 = true
+            held 0 0 = 4
+            """);
+        Script.check("one in a line that gives back units of that resource", """
+            resource 0 3 false = true
+            process 0 1 0 = 0
+            body 0: seize 0 2, seize 0 2, release 0 1
+            process 0 1 0 = 1
+            body 1: seize 0 2
+            process 0 1 0 = 2
+            body 2: seize 0 1
+            activate 0 0 = true
+            activate 1 0 = true
+            activate 2 0 = true
+            run 3 0 = 3
+            waiting 0 = 3
+            free 0 = 1
+            kill 0 = true
+            held 0 0 = 1
+            held 1 0 = 2
+            held 2 0 = 0
+            free 0 = 0
+            waiting 0 = 1
+            """);
+        Script.check("a HOLDING one leaves the event list, and none of its events comes", """
+            process 0 1 0 = 0
+            body 0: hold 5, put 0 1
+            activate 0 0 = true
+            run 1 0 = 1
+            kill 0 = true
+            next = -1
+            run 100 100 = 0
+            level 0 = 0
+            """);
+        Script.check("kill once, not twice", """
+            process 0 1 0 = 0
+            body 0: release 0 1
+            kill 0 = true
+            refused: kill 0; kill 0; activate 0 0; interrupt 0; instruct 0 1 0 0
+            """);
         Script.end();
     }
 }

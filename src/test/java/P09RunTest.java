@@ -82,6 +82,68 @@ public final class P09RunTest {
             traced 1 = 16
             traced 0 = 34
             """);
+        Script.check("an entry at until is made, one just after it is not", """
+            process 0 1 0 = 0
+            process 0 1 0 = 1
+            process 0 1 0 = 2
+            activate 0 9 = true
+            activate 1 10 = true
+            activate 2 11 = true
+            run 100 10 = 2
+            now = 10
+            state 1 = 6
+            state 2 = 1
+            next = 11
+            """);
+        Script.check("just as many as n: the clock stays at the last of them, though none is left", """
+            process 0 1 0 = 0
+            process 0 1 0 = 1
+            activate 0 3 = true
+            activate 1 5 = true
+            run 2 100 = 2
+            now = 5
+            next = -1
+            run 1 100 = 0
+            now = 100
+            """);
+        Script.check("n is 0: none is made, though one is due, and the clock stays", """
+            process 0 1 0 = 0
+            activate 0 0 = true
+            run 0 0 = 0
+            run 0 100 = 0
+            now = 0
+            state 0 = 1
+            next = 0
+            traced 0 = -1
+            """);
+        Script.check("until is the clock's time: the events of now", """
+            run 1 8 = 0
+            process 0 1 0 = 0
+            body 0: hold 0, hold 0, hold 1
+            activate 0 0 = true
+            run 100 8 = 3
+            now = 8
+            next = 9
+            refused: run 100 7; run 1 0; run 0 7
+            """);
+        Script.check("the clock becomes until also when later entries are there", """
+            process 0 1 0 = 0
+            activate 0 10 = true
+            run 1 9 = 0
+            now = 9
+            next = 10
+            run 1 10 = 1
+            now = 10
+            """);
+        Script.check("events that are made in the same call count", """
+            process 0 1 0 = 0
+            body 0: wake 1, hold 2, wake 2
+            process 0 1 0 = 1
+            process 0 1 0 = 2
+            activate 0 0 = true
+            run 100 2 = 4
+            now = 2
+            """);
         Script.end();
     }
 }

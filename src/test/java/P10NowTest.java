@@ -24,6 +24,19 @@ public final class P10NowTest {
             run 1 6 = 1
             now = 6
             """);
+        Script.check("a refused run leaves the clock", """
+            run 1 50 = 0
+            refused: run 1 49; run 101 60; run -1 60; run 1 1000000000001
+            now = 50
+            """);
+        Script.check("0, and the latest time", """
+            run 1 0 = 0
+            now = 0
+            run 1 999999999999 = 0
+            now = 999999999999
+            run 1 1000000000000 = 0
+            now = 1000000000000
+            """);
         Script.end();
     }
 }

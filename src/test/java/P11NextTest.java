@@ -24,6 +24,31 @@ public final class P11NextTest {
             activate 0 0 = true
             next = 0
             """);
+        Script.check("the list is empty though processes are PASSIVE, QUEUED or WAITING", """
+            process 0 1 0 = 0
+            body 0: passivate
+            process 0 1 0 = 1
+            body 1: seize 0 2
+            process 0 1 0 = 2
+            body 2: take 0 1
+            activate 0 0 = true
+            activate 1 0 = true
+            activate 2 0 = true
+            next = 0
+            run 3 0 = 3
+            next = -1
+            """);
+        Script.check("the last entry leaves by interrupt and comes anew, or by kill", """
+            process 0 1 10 = 0
+            body 0: hold 7
+            activate 0 0 = true
+            run 1 0 = 1
+            next = 7
+            interrupt 0 = true
+            next = 0
+            kill 0 = true
+            next = -1
+            """);
         Script.end();
     }
 }

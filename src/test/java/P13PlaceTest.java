@@ -31,6 +31,32 @@ public final class P13PlaceTest {
             place 12 = -1
             place 2147483647 = -1
             """);
+        Script.check("a place of 10: behind a body of ten, and by a handler", """
+            process 0 1 0 = 0
+            body 0: put 0 1, put 0 1, put 0 1, put 0 1, put 0 1, put 0 1, put 0 1, put 0 1, put 0 1, passivate
+            process 0 1 10 = 1
+            body 1: passivate
+            activate 0 0 = true
+            activate 1 0 = true
+            run 2 0 = 2
+            place 0 = 10
+            place 1 = 1
+            interrupt 1 = true
+            place 1 = 10
+            kill 1 = true
+            place 1 = 10
+            """);
+        Script.check("the place behind the last instruction stays until the next turn, also before another round", """
+            process 0 2 0 = 0
+            body 0: hold 3
+            activate 0 0 = true
+            run 1 0 = 1
+            place 0 = 1
+            run 1 3 = 1
+            traced 0 = 16
+            place 0 = 1
+            state 0 = 2
+            """);
         Script.end();
     }
 }

@@ -41,6 +41,30 @@ public final class P14HeldTest {
             held -2147483648 0 = -1
             held 0 3 = 0
             """);
+        Script.check("none, and all nine", """
+            resource 1 9 false = true
+            process 0 1 0 = 0
+            body 0: seize 1 9, passivate, release 1 9
+            process 0 1 0 = 1
+            activate 0 0 = true
+            held 0 1 = 0
+            run 1 0 = 1
+            held 0 1 = 9
+            held 1 1 = 0
+            activate 0 0 = true
+            run 1 0 = 1
+            held 0 1 = 0
+            """);
+        Script.check("one who is in the line has none of what it wants", """
+            resource 0 3 false = true
+            process 0 1 0 = 0
+            body 0: seize 0 2, seize 0 2
+            activate 0 0 = true
+            run 1 0 = 1
+            state 0 = 4
+            held 0 0 = 2
+            free 0 = 1
+            """);
         Script.end();
     }
 }

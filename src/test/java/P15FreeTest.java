@@ -22,6 +22,23 @@ public final class P15FreeTest {
             free 2147483647 = -1
             free -2147483648 = -1
             """);
+        Script.check("none and all of them, of each resource", """
+            resource 0 0 false = true
+            resource 1 9 false = true
+            resource 2 9 false = true
+            process 0 1 0 = 0
+            body 0: seize 2 9, seize 3 1, passivate, release 2 9, release 3 1
+            activate 0 0 = true
+            run 1 0 = 1
+            free 0 = 0
+            free 1 = 9
+            free 2 = 0
+            free 3 = 0
+            activate 0 0 = true
+            run 1 0 = 1
+            free 2 = 9
+            free 3 = 1
+            """);
         Script.end();
     }
 }

@@ -134,6 +134,26 @@ public final class P16WaitingTest {
             run 100 0 = 1
             waiting 4 = 12
             """);
+        Script.check("an empty line, one in it, and empty again: each line", """
+            waiting 0 = 0
+            waiting 1 = 0
+            waiting 2 = 0
+            waiting 3 = 0
+            waiting 4 = 0
+            process 0 1 10 = 0
+            body 0: seize 3 2
+            process 0 1 10 = 1
+            body 1: take 3 1
+            activate 0 0 = true
+            activate 1 0 = true
+            run 2 0 = 2
+            waiting 3 = 1
+            waiting 4 = 1
+            interrupt 0 = true
+            interrupt 1 = true
+            waiting 3 = 0
+            waiting 4 = 0
+            """);
         Script.end();
     }
 }

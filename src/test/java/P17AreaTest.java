@@ -47,6 +47,52 @@ public final class P17AreaTest {
             area 2147483647 = -1
             area -2147483648 = -1
             """);
+        Script.check("no time, and one unit for one time", """
+            process 0 1 0 = 0
+            body 0: seize 0 1, release 0 1, seize 0 1, hold 1, release 0 1
+            activate 0 0 = true
+            run 1 0 = 1
+            area 0 = 0
+            run 0 1 = 0
+            area 0 = 0
+            run 1 1 = 1
+            area 0 = 1
+            run 1 100 = 0
+            area 0 = 1
+            """);
+        Script.check("units that are lost by force count for who has them then", """
+            resource 0 9 true = true
+            process 1 1 10 = 0
+            body 0: seize 0 9, passivate
+            process 0 1 0 = 1
+            body 1: seize 0 2, hold 3, release 0 2
+            activate 0 0 = true
+            activate 1 10 = true
+            run 100 100 = 4
+            area 0 = 96
+            """);
+        Script.check("a change of the capacity changes nothing of it; refused runs neither", """
+            process 0 1 0 = 0
+            body 0: seize 2 1, passivate
+            activate 0 0 = true
+            run 1 0 = 1
+            run 1 4 = 0
+            resource 2 9 true = true
+            area 2 = 4
+            refused: run 1 3; run 101 10
+            run 1 6 = 0
+            area 2 = 6
+            """);
+        Script.check("each resource has its own", """
+            process 0 1 0 = 0
+            body 0: seize 0 1, hold 1, seize 1 1, hold 1, seize 2 1, hold 1, seize 3 1, hold 1
+            activate 0 0 = true
+            run 100 4 = 5
+            area 0 = 4
+            area 1 = 3
+            area 2 = 2
+            area 3 = 1
+            """);
         Script.end();
     }
 }

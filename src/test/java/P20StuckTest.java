@@ -42,6 +42,43 @@ public final class P20StuckTest {
             run 2 0 = 2
             stuck = false
             """);
+        Script.check("an entry far away is an entry", """
+            process 0 1 0 = 0
+            body 0: take 0 1
+            process 0 1 0 = 1
+            activate 0 0 = true
+            activate 1 1000000 = true
+            run 1 0 = 1
+            state 0 = 5
+            stuck = false
+            run 1 1000000 = 1
+            stuck = true
+            """);
+        Script.check("one QUEUED and one WAITING; then none", """
+            resource 0 0 false = true
+            process 0 1 0 = 0
+            body 0: seize 0 1
+            process 0 1 0 = 1
+            body 1: join 1
+            activate 0 0 = true
+            activate 1 0 = true
+            run 2 0 = 2
+            stuck = true
+            kill 0 = true
+            stuck = true
+            kill 1 = true
+            stuck = false
+            """);
+        Script.check("an empty list and nobody at all, or all over", """
+            stuck = false
+            run 1 10 = 0
+            stuck = false
+            process 0 1 0 = 0
+            activate 0 0 = true
+            stuck = false
+            run 1 10 = 1
+            stuck = false
+            """);
         Script.end();
     }
 }

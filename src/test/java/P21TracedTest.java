@@ -64,6 +64,62 @@ public final class P21TracedTest {
             traced 62 = 144
             traced 63 = 129
             """);
+        Script.check("none yet, the latest, and one more than there were", """
+            traced 0 = -1
+            traced 63 = -1
+            process 0 1 0 = 0
+            activate 0 0 = true
+            traced 0 = -1
+            run 1 0 = 1
+            traced 0 = 0
+            traced 1 = -1
+            traced 63 = -1
+            """);
+        Script.check("the greatest row: process 11 at place 10", """
+            process 0 1 0 = 0
+            process 0 1 0 = 1
+            process 0 1 0 = 2
+            process 0 1 0 = 3
+            process 0 1 0 = 4
+            process 0 1 0 = 5
+            process 0 1 0 = 6
+            process 0 1 0 = 7
+            process 0 1 0 = 8
+            process 0 1 0 = 9
+            process 0 1 0 = 10
+            process 0 1 10 = 11
+            body 11: passivate
+            activate 11 0 = true
+            run 1 0 = 1
+            traced 0 = 11
+            interrupt 11 = true
+            run 1 0 = 1
+            traced 0 = 171
+            traced 1 = 11
+            """);
+        Script.check("the place when the turn began, not where it ended or in which round", """
+            process 0 3 0 = 0
+            body 0: put 0 1, passivate, put 0 1
+            activate 0 0 = true
+            run 1 0 = 1
+            activate 0 0 = true
+            run 1 0 = 1
+            traced 0 = 32
+            place 0 = 2
+            """);
+        Script.check("what is no event is not traced: calls from outside, refused runs, runs of none", """
+            process 0 1 10 = 0
+            body 0: passivate
+            activate 0 0 = true
+            run 1 0 = 1
+            interrupt 0 = true
+            run 0 0 = 0
+            refused: run 101 0; run 1 -1
+            kill 0 = true
+            run 5 5 = 0
+            traced 0 = 0
+            traced 1 = -1
+            """);
         Script.end();
     }
 }

@@ -70,7 +70,6 @@ public final class RefusedTest {
         tank 2 999 0
         kill 1
         run 9 15
-        activate 2 3
         run 100 40
         """;
 

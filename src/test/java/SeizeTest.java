@@ -391,6 +391,100 @@ public final class SeizeTest {
             state 1 = 4
             """);
         Script.check("all units of all nine losers, one each", nineLosers());
+        Script.check("the greatest priority number loses before the greatest process number", """
+            resource 0 6 true = true
+            process 4 1 7 = 0
+            body 0: seize 0 2, passivate
+            process 1 1 7 = 1
+            body 1: seize 0 2, passivate
+            process 2 1 7 = 2
+            body 2: seize 0 2, passivate
+            process 0 1 0 = 3
+            body 3: seize 0 2, passivate, seize 0 2, passivate, seize 0 2, passivate
+            activate 0 0 = true
+            activate 1 0 = true
+            activate 2 0 = true
+            run 3 0 = 3
+            activate 3 0 = true
+            run 1 0 = 1
+            held 0 0 = 0
+            held 1 0 = 2
+            held 2 0 = 2
+            activate 3 0 = true
+            run 1 0 = 1
+            held 1 0 = 2
+            held 2 0 = 0
+            activate 3 0 = true
+            run 1 0 = 1
+            held 1 0 = 0
+            held 3 0 = 6
+            """);
+        Script.check("of equal priority numbers the greatest process number loses first", """
+            resource 0 3 true = true
+            process 1 1 7 = 0
+            body 0: seize 0 1, passivate
+            process 1 1 7 = 1
+            body 1: seize 0 1, passivate
+            process 1 1 7 = 2
+            body 2: seize 0 1, passivate
+            process 0 3 0 = 3
+            body 3: seize 0 1, passivate
+            activate 2 0 = true
+            activate 0 0 = true
+            activate 1 0 = true
+            run 3 0 = 3
+            activate 3 0 = true
+            run 1 0 = 1
+            held 2 0 = 0
+            held 1 0 = 1
+            held 0 0 = 1
+            activate 3 0 = true
+            run 1 0 = 1
+            traced 0 = 35
+            held 1 0 = 0
+            held 0 0 = 1
+            """);
+        Script.check("first those who lost are entered, then those whom the line serves", """
+            resource 0 3 true = true
+            process 2 1 10 = 0
+            body 0: seize 0 3, passivate
+            process 2 1 10 = 1
+            body 1: seize 0 2, passivate
+            process 0 1 0 = 2
+            body 2: seize 0 1, passivate
+            activate 0 0 = true
+            activate 1 0 = true
+            run 2 0 = 2
+            activate 2 0 = true
+            run 1 0 = 1
+            state 0 = 1
+            state 1 = 1
+            run 2 0 = 2
+            traced 1 = 160
+            traced 0 = 17
+            """);
+        Script.check("it gets its units before those who lost are broken off and their line is served", """
+            resource 0 4 true = true
+            process 2 1 10 = 0
+            body 0: seize 0 2, seize 0 4
+            process 2 1 10 = 1
+            body 1: seize 0 2, passivate
+            process 3 1 10 = 2
+            body 2: seize 0 1
+            process 0 1 0 = 3
+            body 3: seize 0 4, passivate
+            activate 1 0 = true
+            activate 0 0 = true
+            activate 2 0 = true
+            run 3 0 = 3
+            waiting 0 = 2
+            activate 3 0 = true
+            run 1 0 = 1
+            held 3 0 = 4
+            waiting 0 = 1
+            state 2 = 4
+            held 2 0 = 0
+            """);
         Script.check("its own units are not counted and are not lost", """
             resource 0 3 true = true
             process 1 1 10 = 0

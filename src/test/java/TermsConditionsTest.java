@@ -147,6 +147,39 @@ public final class TermsConditionsTest {
             level 0 = 5
             level 1 = 1
             """);
+        Script.check("no call but run goes over the line, and run only by an event", """
+            tank 0 10 0 = true
+            process 0 1 0 = 0
+            body 0: take 0 1
+            process 0 1 5 = 1
+            body 1: passivate
+            process 0 1 5 = 2
+            body 2: seize 0 2
+            activate 0 0 = true
+            activate 1 0 = true
+            activate 2 0 = true
+            run 3 0 = 3
+            tank 0 10 1 = true
+            process 0 1 0 = 3
+            instruct 3 1 0 0 = true
+            state 0 = 5
+            resource 0 2 false = true
+            state 0 = 5
+            interrupt 1 = true
+            state 0 = 5
+            kill 1 = true
+            kill 2 = true
+            state 0 = 5
+            activate 3 5 = true
+            state 0 = 5
+            run 0 4 = 0
+            run 9 4 = 0
+            state 0 = 5
+            level 0 = 1
+            run 1 5 = 1
+            state 0 = 1
+            level 0 = 0
+            """);
         Script.check("killed before its turn, what it put or took is not undone", """
             tank 0 5 0 = true
             process 0 1 0 = 0

@@ -43,20 +43,27 @@ public final class TermsEventTest {
             traced 1 = 1
             traced 0 = 0
             """);
-        Script.check("times that differ by more than an int can hold", """
-            process 0 1 0 = 0
-            body 0: hold 1
-            process 0 1 0 = 1
-            run 1 4294967295 = 0
-            activate 1 2 = true
-            activate 0 0 = true
-            run 1 4294967295 = 1
-            next = 4294967296
-            run 2 4294967297 = 2
-            traced 1 = 16
-            traced 0 = 1
-            now = 4294967297
-            """);
+        for (long edge : new long[] {2147483648L, 4294967296L, 6442450944L, 999999999999L}) {
+            Script.check("times about " + edge + ", beyond what an int can hold", """
+                process 0 1 0 = 0
+                process 0 1 0 = 1
+                process 0 1 0 = 2
+                run 1 BEFORE = 0
+                activate 2 2 = true
+                activate 1 1 = true
+                activate 0 0 = true
+                next = BEFORE
+                run 1 BEFORE = 1
+                traced 0 = 0
+                next = EDGE
+                run 1 EDGE = 1
+                traced 0 = 1
+                now = EDGE
+                next = AFTER
+                run 1 AFTER = 1
+                traced 0 = 2
+                """.replace("BEFORE", "" + (edge - 1)).replace("EDGE", "" + edge).replace("AFTER", "" + (edge + 1)));
+        }
         Script.check("twelve entries at one time", """
             process 0 1 0 = 0
             process 0 1 0 = 1
