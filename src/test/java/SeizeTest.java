@@ -240,6 +240,36 @@ public final class SeizeTest {
             state 0 = 3
             state 1 = 6
             """);
+        Script.check("a loser that another resource's line serves while another is interrupted is not interrupted", """
+            resource 0 2 true = true
+            process 2 1 5 = 0
+            body 0: seize 0 1, hold 1, seize 1 1, passivate
+            process 2 1 5 = 1
+            body 1: seize 0 1, seize 1 2, passivate
+            process 0 1 0 = 2
+            body 2: seize 0 2, passivate
+            activate 0 0 = true
+            activate 1 0 = true
+            run 3 1 = 3
+            waiting 1 = 2
+            free 1 = 1
+            activate 2 1 = true
+            run 1 2 = 1           # both lose; 1 is interrupted first, and then the line of 1 gives 0 its unit
+            held 2 0 = 2
+            held 0 0 = 0
+            held 0 1 = 1
+            waiting 1 = 0
+            waited 1 = 1
+            state 0 = 1
+            place 0 = 3
+            state 1 = 1
+            place 1 = 5
+            run 2 2 = 2
+            traced 1 = 81
+            traced 0 = 48
+            state 0 = 3
+            state 1 = 6
+            """);
         Script.check("the process goes on in its turn after it took by force", """
             resource 0 1 true = true
             process 1 1 1 = 0

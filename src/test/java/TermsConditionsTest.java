@@ -180,6 +180,26 @@ public final class TermsConditionsTest {
             state 0 = 1
             level 0 = 0
             """);
+        Script.check("a kill from outside: who joined goes on only after the next event", """
+            process 0 1 0 = 0
+            body 0: join 1
+            process 0 1 0 = 1
+            process 0 1 0 = 2
+            activate 0 0 = true
+            run 1 0 = 1
+            state 0 = 5
+            kill 1 = true
+            state 0 = 5
+            stuck = true
+            run 100 7 = 0
+            state 0 = 5
+            waiting 4 = 1
+            activate 2 0 = true
+            run 1 7 = 1
+            state 0 = 1
+            waiting 4 = 0
+            stuck = false
+            """);
         Script.check("killed before its turn, what it put or took is not undone", """
             tank 0 5 0 = true
             process 0 1 0 = 0
